@@ -89,7 +89,8 @@ public final class TankHulls {
     private int faultPlace;
 
     public TankHulls() {
-        now = new World();
+        World world = new World();
+        now = world;
         images = new World[MOST_IMAGES];
         for (int i = 0; i < images.length; i++) {
             images[i] = new World();
@@ -98,7 +99,7 @@ public final class TankHulls {
         reader = new Reader();
         laws = new Shelf(MOST_LAWS);
         ways = new Shelf(MOST_WAYS);
-        bench = new Bench(now);
+        bench = new Bench(world);
         faultPlace = NONE;
     }
 

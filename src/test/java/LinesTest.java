@@ -92,6 +92,15 @@ public final class LinesTest {
         c.due("all is at its limit", -1, x.better(0, 0));
         x.station(0, 1, 0, 0);
         c.due("nothing to give", -1, x.better(0, 0));
+        TankHulls y = new TankHulls();
+        y.hull(100, 2);
+        y.station(0, 1, 0, 5);
+        Checks.law(y, "eddy 100-beam;");
+        c.due("no beam below 0", -1, y.better(0, 0));
+        y.station(0, 1, 1, 5);
+        c.due("the last one is given", 89, y.better(0, -1));
+        y.station(0, 0, 59, 5);
+        c.due("59 becomes 60", 40, y.better(0, -1));
     }
 
     private static void ties() {

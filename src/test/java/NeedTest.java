@@ -31,6 +31,7 @@ public final class NeedTest {
         // the ship: months as they are, no wire, no sides
         c.due("need", 10883 + 10883 * 15 / 100, x.need(0, 500, 2));
         c.due("rest, 0 at least", 0, x.need(0, 139, 0));
+        c.due("rest of no pull", 0, x.need(0, 0, 0));
         c.due("need of no rest", 8003 + 8003 * 15 / 100, x.need(0, 139, 2));
     }
 
@@ -41,6 +42,8 @@ public final class NeedTest {
         Checks.way(x, "add 9999*9999*99;more 9999*9;");
         x.set(0, 40, 99, -1);
         c.due("the ship's speed, 99 at most", 99, x.need(0, 1, 3));
+        Checks.way(x, "add length*10+fn;");
+        c.due("the ship is at scale 1", 1000 + 9801, x.need(2, 0, 2));
         c.due("an empty way", 1000000000L * 64000, x.need(0, 1000000000, 2));
         c.due("the greatest need", (1000000000L * 64000 + 1000000000L) * 101, x.need(1, 1000000000, 2));
     }
@@ -71,6 +74,8 @@ public final class NeedTest {
         Checks.law(x, "eddy 9999*9999*99;skin 9999*9999*99;");
         x.law(0, true);
         c.due("a model's pull counts 1,000,000,000 at most", 6000000000L, x.error(1, 1, 9, 2));
+        Checks.law(x, "eddy length;");
+        c.due("the ship's own pull is at scale 1", 50 * 8 - 100, x.error(2, 1, 9, 2));
     }
 
     private static void size() {
@@ -92,6 +97,15 @@ public final class NeedTest {
         // k cubed less 1, and 9,999 times 100 by k: the least is at 33 (35,936 + 29,997)
         c.due("by 9,999", best(100, 9999), x.size(1, 0, 9, 9999));
         c.due("of the same ones the least", 2, x.size(2, 0, 9, 0));
+        c.due("the least speed", 2, x.size(2, 0, 1, 0));
+        Checks.law(x, "eddy 1000 if length=100;eddy 100 if length=50;eddy 37 if length=33;");
+        // the ship's 1,000: 800 at scale 2, 999 at 3, none behind
+        c.due("the ship's own pull is at scale 1", 3, x.size(3, 0, 9, 0));
+        TankHulls y = new TankHulls();
+        y.hull(390, 2);
+        y.law(0, false);
+        y.law(0, true);
+        c.due("40 is one of them", 40, y.size(0, 0, 9, 1));
         // lengths 3 from 26 to 33, 2 from 34 on
         c.due("of the same lengths the least", 34, x.size(2, 0, 9, 1));
     }

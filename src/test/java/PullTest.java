@@ -74,11 +74,13 @@ public final class PullTest {
         x.set(0, 1, 5, 1);
         c.due("in a small tank", 7, x.widest(0, 0));
         TankHulls y = new TankHulls();
-        y.hull(400, 2);
+        y.hull(390, 2);
         y.station(0, 0, 60, 60);
         y.tank(1, 1);
         Checks.law(y, "eddy 100;sides side;");
         y.set(0, 1, 5, 0);
         c.due("no scale is enough", -1, y.widest(0, 99));
+        Checks.law(y, "eddy 100+side*least(1,length-9);");
+        c.due("40 is one of them", 40, y.widest(1, 0));
     }
 }

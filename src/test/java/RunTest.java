@@ -67,6 +67,10 @@ public final class RunTest {
             c.due("its months", 23, x.ran(spread, 5));
             c.due("the seed", seed, x.count(10));
         }
+        Checks.law(x, "eddy 0;");
+        x.tow(1, 50);
+        c.due("nothing stays nothing", 0, x.ran(51, 6));
+        seed = seed * 1103515245 + 12345;
         c.due("seed(5)", seed, x.seed(5));
         c.due("seed(-3)", 5, x.seed(-3));
         c.due("seed(0)", -3, x.seed(0));
@@ -143,6 +147,16 @@ public final class RunTest {
         c.due("one hundredth", 2, x.fits(1));
         c.due("by the runs' own months", 2, x.fits(33));
         c.due("51 of 150 on both sides", 3, x.fits(34));
+        TankHulls y = new TankHulls();
+        y.hull(100, 2);
+        y.hull(60, 2);
+        Checks.law(y, "eddy length*100+speed;");
+        y.set(1, 3, 7, -1);
+        y.run(2007);
+        y.set(0, 1, 1, -1);
+        c.due("by the runs' own hull, scale and speed", 1, y.fits(0));
+        y.run(2007);
+        c.due("not any more", 0, y.fits(0));
     }
 
     private static void telling() {
@@ -170,5 +184,11 @@ public final class RunTest {
         x.set(0, 10, 9, 0);
         // at scale 10 the length is 10: 1,500 at speed 33
         c.due("of the scale at hand", 44, x.telling(0));
+        TankHulls y = new TankHulls();
+        y.hull(100, 2);
+        Checks.law(y, "eddy 500-speed;");
+        Checks.law(y, "eddy 500;");
+        Checks.law(y, "eddy 500;");
+        c.due("99 is one of them, the first law too", 99, y.telling(0));
     }
 }

@@ -108,6 +108,8 @@ public final class ShipTest {
         c.due("all four", 4, x.odds(999, 1000000000));
         c.due("price of none", -80, x.price(999, 948, 90, 20));
         c.due("price of two", 140, x.price(999, 1000, 90, 20));
+        c.due("without a bonus", -40, x.price(999, 1000, 0, 20));
+        c.due("without a malus", 180, x.price(999, 1000, 90, 0));
         c.due("price of four", 39996, x.price(999, 5000, 9999, 9999));
         TankHulls y = new TankHulls();
         y.earlier(1, 1000000000);

@@ -95,6 +95,11 @@ public final class TextTest {
         bad("more 1;", 0);
         bad("skins 1;", 0);
         bad("ski 1;", 0);
+        bad("skinz 1;", 0);
+        bad("askin 1;", 0);
+        bad("skin{1;", 4);
+        bad("skin`1;", 4);
+        bad("skin:1;", 4);
         bad("Skin 1;", 0);
         bad("sKin 1;", 0);
         bad("skiN 1;", 0);
@@ -265,7 +270,7 @@ public final class TextTest {
         value(big, 0);
         value(big + "-1", 1000000000L);
         value(big + "/(0-1)", 0);
-        value("root(" + big + "-1)/1000", 3037000);
+        value("root(" + big + "-1)-3037*1000*1000", 499);
         value("root(" + big + ")+1", 1);
         value("4096*4096*4096*4096*4096*16+7", 7);
     }
