@@ -1154,7 +1154,10 @@ public final class TankHulls {
             } else if (isDigit(text[place])) {
                 scanNumber();
             } else if (isLetter(text[place])) {
-                scanWord();
+                while (next < length && isLetter(text[next])) {
+                    next++;
+                }
+                token = wordBetween(start, next);
             } else {
                 token = text[place];
                 next = place + 1;
@@ -1176,13 +1179,6 @@ public final class TankHulls {
                 number = Math.min(number * 10 + text[next] - '0', MOST_NUMBER + 1);
                 next++;
             }
-        }
-
-        private void scanWord() {
-            while (next < length && isLetter(text[next])) {
-                next++;
-            }
-            token = wordBetween(start, next);
         }
 
         private int wordBetween(int from, int to) {
@@ -1216,6 +1212,8 @@ public final class TankHulls {
         private final long[] told;
         private final long[] stack;
         private int top;
+        private long skin;
+        private long all;
 
         Worker() {
             names = new long[NAMES];
@@ -1247,7 +1245,7 @@ public final class TankHulls {
                 case '+': return left + right;
                 case '-': return left - right;
                 case '*': return left * right;
-                case '/': return over(left, right);
+                case '/': return right == 0 ? 0 : left / right;
                 case LEAST: return left <= right ? left : right;
                 case MOST: return left >= right ? left : right;
                 case '<': return left < right ? 1 : 0;
@@ -1297,16 +1295,12 @@ public final class TankHulls {
             return Math.min(told[word], share ? MOST_SHARE : MOST_PULL);
         }
 
-        long skinTold() {
-            return toldOf(SKIN) + hundredths(toldOf(SKIN), toldOf(FOUL));
-        }
-
-        long allTold() {
-            return skinTold() + toldOf(WAVE) + toldOf(EDDY);
-        }
-
-        long pullTold() {
-            return allTold() + hundredths(allTold(), toldOf(SIDES));
+        /** PULL by what a LAW told; SKIN and ALL are left for who asks. */
+        long addUp() {
+            long bare = toldOf(SKIN);
+            skin = bare + hundredths(bare, toldOf(FOUL));
+            all = skin + toldOf(WAVE) + toldOf(EDDY);
+            return all + hundredths(all, toldOf(SIDES));
         }
     }
 
@@ -1372,7 +1366,7 @@ public final class TankHulls {
         private long pullOf(Program law, Running running) {
             nameAll(running);
             worker.work(law);
-            return worker.pullTold();
+            return worker.addUp();
         }
 
         /** The HULL at hand in open water, without a WIRE, at 0 months. */
@@ -1394,10 +1388,10 @@ public final class TankHulls {
             long whole = pullOf(law, world.hand);
             switch (what) {
                 case 0: return whole;
-                case 1: return worker.skinTold();
+                case 1: return worker.skin;
                 case 2: return worker.toldOf(WAVE);
                 case 3: return worker.toldOf(EDDY);
-                default: return worker.allTold();
+                default: return worker.all;
             }
         }
 
