@@ -145,14 +145,11 @@ public final class TankHulls {
 
     public int law(int n, boolean way) throws IllegalArgumentException {
         demand(isWithin(n, 0, tape.filled()));
-        int kind = reader.readText(tape, n, way);
-        tape.empty();
-        faultPlace = reader.placeOfFault();
-        if (kind != 0) {
-            return kind - 10;
-        }
         Shelf shelf = way ? ways : laws;
-        return shelf.isFull() ? NONE : shelf.put(reader.finished());
+        // A text that finds no room is not read: it has no FAULT, whatever it says.
+        int answer = shelf.isFull() ? refuse() : readOnto(shelf, n, way);
+        tape.empty();
+        return answer;
     }
 
     public int fault() {
@@ -395,6 +392,17 @@ public final class TankHulls {
             case 10: return now.seed;
             default: return NONE;
         }
+    }
+
+    private int refuse() {
+        faultPlace = NONE;
+        return NONE;
+    }
+
+    private int readOnto(Shelf shelf, int bytes, boolean way) {
+        int kind = reader.readText(tape, bytes, way);
+        faultPlace = reader.placeOfFault();
+        return kind != 0 ? kind - 10 : shelf.put(reader.finished());
     }
 
     private void feedBytes(int number) {

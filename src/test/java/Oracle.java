@@ -417,6 +417,10 @@ final class Oracle {
         String text = tape.substring(0, n);
         tape = "";
         fault = -1;
+        List<String> kept = way ? ways : laws;
+        if (kept.size() == (way ? 3 : 4)) {
+            return -1;
+        }
         Map<String, Long> none = new HashMap<>();
         NAMES.forEach(name -> none.put(name, 0L));
         try {
@@ -424,10 +428,6 @@ final class Oracle {
         } catch (Fault f) {
             fault = f.place;
             return f.kind - 10;
-        }
-        List<String> kept = way ? ways : laws;
-        if (kept.size() == (way ? 3 : 4)) {
-            return -1;
         }
         kept.add(text);
         return kept.size() - 1;

@@ -11,6 +11,7 @@ import java.util.Random;
 public final class RandomRunsTest {
     private static final int RUNS = 120;
     private static final int CALLS = 512;
+    private static final int TEXT_RUNS = 600;
 
     private final Random random;
     private final TankHulls x = new TankHulls();
@@ -26,7 +27,10 @@ public final class RandomRunsTest {
         for (int run = 0; run < RUNS && wrong < 5; run++) {
             wrong += new RandomRunsTest(run).isAsDue(run) ? 0 : 1;
         }
-        System.out.println(RUNS + " runs of " + CALLS + " calls, " + wrong + " wrong");
+        for (int run = 0; run < TEXT_RUNS && wrong < 5; run++) {
+            wrong += new RandomRunsTest(RUNS + run).areTextsAsDue(run) ? 0 : 1;
+        }
+        System.out.println(RUNS + " runs of " + CALLS + " calls, " + TEXT_RUNS + " of texts, " + wrong + " wrong");
         if (wrong != 0) {
             System.exit(1);
         }
@@ -53,12 +57,50 @@ public final class RandomRunsTest {
                 same &= rare && random.nextInt(4) != 0 || isCallAsDue(m.getName(), arguments(m));
             }
             if (!same) {
-                System.out.println("run " + run + ", the last calls:");
-                said.subList(Math.max(0, said.size() - 12), said.size()).forEach(System.out::println);
+                tellLastCalls("run " + run);
                 return false;
             }
         }
         return true;
+    }
+
+    private void tellLastCalls(String of) {
+        System.out.println(of + ", the last calls:");
+        said.subList(Math.max(0, said.size() - 12), said.size()).forEach(System.out::println);
+    }
+
+    /** Texts till both shelves are full (or many were faulty), then all that they tell. */
+    private boolean areTextsAsDue(int run) {
+        boolean same = isCallAsDue("hull", new Object[] {10 + random.nextInt(391), 2 + random.nextInt(11)})
+                && isCallAsDue("tank", new Object[] {1 + random.nextInt(60), 1 + random.nextInt(60)});
+        for (int i = 0; same && i < 9; i++) {
+            boolean way = i % 2 == 1;
+            same = isTextAsDue(new TextMaker(random).text(way), way);
+        }
+        for (int i = 0; same && i < 3; i++) {
+            same = isCallAsDue("set", new Object[] {0, 1 + random.nextInt(40), 1 + random.nextInt(99), i % 2 - 1})
+                    && isCallAsDue("trim", new Object[] {random.nextBoolean(), random.nextInt(100)})
+                    && isAllToldAsDue();
+        }
+        if (!same) {
+            tellLastCalls("texts " + run);
+        }
+        return same;
+    }
+
+    private boolean isAllToldAsDue() {
+        boolean same = true;
+        for (int what = 0; what < 5; what++) {
+            for (int law = 0; law < 4; law++) {
+                same = same && isCallAsDue("pull", new Object[] {law, what});
+            }
+        }
+        for (int what = 0; what < 4; what++) {
+            for (int way = 0; way < 3; way++) {
+                same = same && isCallAsDue("need", new Object[] {way, random.nextInt(1000000001), what});
+            }
+        }
+        return same;
     }
 
     /** LAWS and WAYS that answer to every name, and hulls and tanks that they differ on. */
@@ -160,8 +202,8 @@ public final class RandomRunsTest {
 
     private boolean isTextAsDue(String text, boolean way) {
         byte[] bytes = Arrays.copyOf(text.getBytes(java.nio.charset.StandardCharsets.ISO_8859_1), 400);
-        // what stands on the tape is taken away first
-        boolean same = isCallAsDue("law", new Object[] {0, !way});
+        // what stands on the tape is taken away first, by a fault: an empty text would fill a place
+        boolean same = x.count(9) == 0 || isCallAsDue("law", new Object[] {1, way});
         for (int i = 0; same && i < text.length(); i += 20) {
             Object[] five = new Object[5];
             for (int k = 0; k < 5; k++) {

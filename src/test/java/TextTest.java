@@ -5,6 +5,7 @@ public final class TextTest {
     public static void main(String[] args) {
         tape();
         shelves();
+        oneShelfFull();
         faultsOfWords();
         faultsOfEnds();
         faultsOfNumbers();
@@ -51,17 +52,50 @@ public final class TextTest {
         for (int i = 0; i < 4; i++) {
             c.due("law " + i, i, Checks.law(x, "skin 1;"));
         }
-        c.due("a fifth law", -1, Checks.law(x, "skin 1;"));
-        c.due("no fault of it", -1, x.fault());
-        c.due("the tape is empty", 0, x.count(9));
-        c.due("a faulty fifth law", -9, Checks.law(x, "skin"));
-        c.due("its place", 4, x.fault());
+        noRoom(x, false);
         for (int i = 0; i < 3; i++) {
             c.due("way " + i, i, Checks.way(x, "add 1;"));
         }
-        c.due("a fourth way", -1, Checks.way(x, "add 1;"));
+        noRoom(x, true);
+        noRoom(x, false);
         c.due("laws", 4, x.count(2));
         c.due("ways", 3, x.count(3));
+    }
+
+    /** Without room every text is answered -1, a faulty one too, and has no FAULT. */
+    private static void noRoom(TankHulls x, boolean way) {
+        String kind = way ? "way" : "law";
+        String[] texts = {"", way ? "add 1;" : "skin 1;", "?", "skin", "off 10000;", clauses(17), "skin (((((((1)))))));"};
+        for (String text : texts) {
+            c.due("no room for the " + kind + " '" + text + "'", -1, Checks.text(x, text, way));
+            c.due("no fault of it", -1, x.fault());
+            c.due("the tape is empty", 0, x.count(9));
+        }
+        c.throwsDue("more bytes than there are, without room", Checks.ARGUMENT, () -> x.law(1, way));
+        c.throwsDue("fewer than none, without room", Checks.ARGUMENT, () -> x.law(-1, way));
+    }
+
+    /** A FAULT on one shelf that has room is told, though the other is full, and gone with the next -1. */
+    private static void oneShelfFull() {
+        TankHulls x = new TankHulls();
+        for (int i = 0; i < 3; i++) {
+            x.law(0, true);
+        }
+        c.due("a faulty law beside full ways", -9, Checks.law(x, "skin"));
+        c.due("its place", 4, x.fault());
+        c.due("a faulty fourth way", -1, Checks.way(x, "?"));
+        c.due("no fault of it", -1, x.fault());
+        c.due("a law beside full ways", 0, Checks.law(x, "skin 1;"));
+
+        TankHulls y = new TankHulls();
+        for (int i = 0; i < 4; i++) {
+            y.law(0, false);
+        }
+        c.due("a faulty way beside full laws", -8, Checks.way(y, " off 10000;"));
+        c.due("its place", 5, y.fault());
+        c.due("a faulty fifth law", -1, Checks.law(y, "?"));
+        c.due("no fault of it", -1, y.fault());
+        c.due("a way beside full laws", 0, Checks.way(y, "off 1;"));
     }
 
     private static void fault(String text, boolean way, int kind, int place) {
