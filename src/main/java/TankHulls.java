@@ -146,10 +146,16 @@ public final class TankHulls {
     public int law(int n, boolean way) throws IllegalArgumentException {
         demand(isWithin(n, 0, tape.filled()));
         Shelf shelf = way ? ways : laws;
-        // A text that finds no room is not read: it has no FAULT, whatever it says.
-        int answer = shelf.isFull() ? refuse() : readOnto(shelf, n, way);
+        if (shelf.isFull()) {
+            // Not even read: a text that finds no room has no FAULT, whatever it says.
+            tape.empty();
+            faultPlace = NONE;
+            return NONE;
+        }
+        int kind = reader.readText(tape, n, way);
         tape.empty();
-        return answer;
+        faultPlace = reader.placeOfFault();
+        return kind != 0 ? kind - 10 : shelf.put(reader.finished());
     }
 
     public int fault() {
@@ -392,17 +398,6 @@ public final class TankHulls {
             case 10: return now.seed;
             default: return NONE;
         }
-    }
-
-    private int refuse() {
-        faultPlace = NONE;
-        return NONE;
-    }
-
-    private int readOnto(Shelf shelf, int bytes, boolean way) {
-        int kind = reader.readText(tape, bytes, way);
-        faultPlace = reader.placeOfFault();
-        return kind != 0 ? kind - 10 : shelf.put(reader.finished());
     }
 
     private void feedBytes(int number) {

@@ -27,7 +27,11 @@ public final class ShipTest {
         c.due("its ratio", 666, x.ratio(2));
         c.throwsDue("ratio 3", Checks.ELEMENT, () -> x.ratio(3));
         c.throwsDue("ratio -2", Checks.ELEMENT, () -> x.ratio(-2));
-        for (int i = 4; i <= 20; i++) {
+        c.due("one below the most", 4, x.earlier(65, 139586437));
+        c.due("its ratio", 2147483646, x.ratio(3));
+        c.due("one above the most", 5, x.earlier(37, 79456895));
+        c.due("its ratio", 2147483647, x.ratio(4));
+        for (int i = 6; i <= 20; i++) {
             c.due("earlier", i, x.earlier(1, 1));
         }
         c.due("a 21st ship", -1, x.earlier(1, 1));

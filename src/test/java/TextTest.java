@@ -160,6 +160,11 @@ public final class TextTest {
         bad("skin least(1,2,3);", 14);
         bad("skin root(1,2);", 11);
         bad("skin root 4;", 10);
+        bad("skin root;", 9);
+        bad("skin root+1;", 9);
+        bad("skin 2*least;", 12);
+        bad("skin most*2;", 9);
+        bad("skin 1 if root<2;", 14);
         bad("skin rooted;", 5);
         bad("skin 1.5;", 6);
         bad("skin 1 < 2;", 7);
