@@ -7,6 +7,7 @@ public final class NeedTest {
         limits();
         error();
         size();
+        hullAtHand();
         c.finish();
     }
 
@@ -108,6 +109,21 @@ public final class NeedTest {
         c.due("40 is one of them", 40, y.size(0, 0, 9, 1));
         // lengths 3 from 26 to 33, 2 from 34 on
         c.due("of the same lengths the least", 34, x.size(2, 0, 9, 1));
+    }
+
+    /** Promises 14 and 15: "of the HULL at hand", whatever its number is. */
+    private static void hullAtHand() {
+        TankHulls x = new TankHulls();
+        x.hull(100, 2);
+        x.hull(10, 2);
+        Checks.law(x, "eddy length;");
+        x.law(0, false);
+        x.law(0, true);
+        c.due("ERROR of the first", 50 * 8 - 100, x.error(0, 0, 9, 2));
+        c.due("BEST SCALE of the first: 2 long from 34 on", 34, x.size(1, 0, 9, 9999));
+        x.set(1, 1, 1, -1);
+        c.due("ERROR of the second", 5 * 8 - 10, x.error(0, 0, 9, 2));
+        c.due("BEST SCALE of the second: 1 long from 6 on", 6, x.size(1, 0, 9, 9999));
     }
 
     private static int best(int length, int coin) {

@@ -5,6 +5,7 @@ public final class PullTest {
     public static void main(String[] args) {
         parts();
         sides();
+        sidesAtHand();
         widest();
         c.finish();
     }
@@ -45,6 +46,23 @@ public final class PullTest {
         c.due("less than in open water", -50, x.sides(1));
         x.set(0, 3, 5, 0);
         c.due("a third", 50, x.sides(0));
+    }
+
+    /** Promise 16: of the HULL, SCALE and speed at hand, in open water too. */
+    private static void sidesAtHand() {
+        TankHulls x = new TankHulls();
+        x.hull(100, 2);
+        x.hull(200, 2);
+        x.tank(10, 10);
+        Checks.law(x, "eddy length*1000+speed*100;eddy length*1000+speed*100+7 if side>0;");
+        x.set(0, 2, 5, 0);
+        c.due("at SCALE 2", 7, x.sides(0));
+        x.set(1, 1, 9, 0);
+        c.due("of the second HULL", 7, x.sides(0));
+        x.set(1, 4, 9, 0);
+        c.due("of its model", 7, x.sides(0));
+        x.set(1, 40, 9, 0);
+        c.due("side 0 is as open water", 0, x.sides(0));
     }
 
     private static void widest() {

@@ -9,6 +9,7 @@ public final class RunTest {
         wire();
         fits();
         telling();
+        tellingAtHand();
         c.finish();
     }
 
@@ -157,6 +158,22 @@ public final class RunTest {
         c.due("by the runs' own hull, scale and speed", 1, y.fits(0));
         y.run(2007);
         c.due("not any more", 0, y.fits(0));
+    }
+
+    /** Promise 24: "of the HULL and SCALE at hand". */
+    private static void tellingAtHand() {
+        TankHulls x = new TankHulls();
+        x.hull(100, 2);
+        x.hull(60, 2);
+        Checks.law(x, "eddy 5;");
+        Checks.law(x, "eddy 5;eddy 6 if length=speed;");
+        c.due("none is 100: the least speed", 1, x.telling(0));
+        x.set(0, 2, 1, -1);
+        c.due("50 at SCALE 2", 50, x.telling(0));
+        x.set(1, 1, 1, -1);
+        c.due("60 of the second HULL", 60, x.telling(0));
+        x.set(1, 3, 1, -1);
+        c.due("20 at SCALE 3", 20, x.telling(0));
     }
 
     private static void telling() {
